@@ -644,8 +644,7 @@ public final class BowBend {
         }
 
         private long eOf(Place p) {
-            Wood w = woodNumbered(p.wood);
-            return w == null ? 1 : w.e;
+            return p.wood >= 0 && p.wood < woods.length ? woods[p.wood].e : 1;
         }
 
         private long pullLineOf(Place p) {
@@ -942,7 +941,7 @@ public final class BowBend {
             if (even > foundEven || even == foundEven && taken < foundCount) {
                 foundEven = even;
                 foundCount = taken;
-                System.arraycopy(way, 0, found, 0, found.length);
+                System.arraycopy(way, 0, found, 0, Math.min(way.length, found.length));
             }
         }
     }

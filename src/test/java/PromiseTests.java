@@ -424,6 +424,7 @@ public final class PromiseTests {
         still(y, "x", () -> y.strain(0, 41), BAD);
         x.draw(3);
         due("by what it follows", x.strain(10, 7), 60000);
+        due("a great one", Check.bowOf("5400/5400").strain(0, 40), 1600000);
     }
 
     private void drawTakesSets() {
@@ -485,6 +486,14 @@ public final class PromiseTests {
         y.knot(0, true);
         due("half of 1 is 0, 0 is not more", y.draw(0), 0);
         due("others keep theirs", y.draw(1), 100);
+        BowBend z = Check.bowOf("1110/2090");
+        due("23001", z.strain(0, 2), 23001);
+        z.wood(0, 5, 24, 23);
+        due("one thousandth above", z.draw(2), 1);
+        due("counts as one", z.about(0, 3), 1);
+        z.stave();
+        z.wood(0, 5, 23, 23);
+        due("one thousandth above", z.draw(2), 100);
     }
 
     private void broken() {
@@ -594,6 +603,7 @@ public final class PromiseTests {
         still(like, "of like ones the least told", () -> like.next(1, 0), 0);
         due("4 deep is not scraped", Check.bowOf("5040/9050").next(40, 0), 10);
         due("4 deep is not scraped", Check.bowOf("50405040/50405040").next(1, 0), NONE);
+        due("nor when it is the stiff one", Check.bowOf("9040/4040").next(1, 0), NONE);
         x.draw(40);
         due("broken, as if it were not", x.next(4, 0), 0);
     }
@@ -635,6 +645,7 @@ public final class PromiseTests {
         due("at 0", x.best(0, 0, 1), 1000);
         due("at 0", x.best(0, 1, 1), NONE);
         due("4 deep is not scraped", Check.bowOf("5040/5050").best(1, 0, 3), 1000);
+        due("nor when it is the stiff one", Check.bowOf("9040/4040").best(1, 0, 3), 444);
         still(x, "x", () -> x.best(-1, 0, 1), BAD);
         still(x, "x", () -> x.best(41, 0, 1), BAD);
         still(x, "f", () -> x.best(0, -1, 1), BAD);
@@ -708,6 +719,7 @@ public final class PromiseTests {
         still(y, "s", () -> y.form(0, 1, 0), BAD);
         still(y, "s", () -> y.form(0, 1, 100), BAD);
         due("f 999, s 99", x.form(0, 999, 99), 21);
+        due("998400 is 600 too few", x.form(0, 999, 39), 33);
     }
 
     private void shape() {
@@ -755,6 +767,9 @@ public final class PromiseTests {
         BowBend y = Check.bowOf("5190/5200");
         due("a load of 1 and a bit", y.pace(1, 4, true), 16000000);
         due("below", y.pace(1, 4, false), 10831);
+        BowBend v = Check.bowOf("9110/5200");
+        due("1 and 99 of 100", v.pace(1, 4, false), below(32000000, 21695 * 2));
+        due("m may be 99", v.pace(99, 4, false), below(32000000, 21695 * 100));
         BowBend z = Check.bowOf("52005200/52005200");
         due("nearer the tip is more load", z.pace(1, 4, true), 640);
         due("below", z.pace(1, 4, false), 7);
@@ -865,6 +880,19 @@ public final class PromiseTests {
         y.see(0, 0);
         y.see(10, 0);
         due("nothing again", y.tooStiff(), NONE);
+        BowBend z = Check.bowOf(UNLIKE);
+        z.see(11, 1);
+        due("a bit is seen", z.tooStiff(), 1);
+        z.see(0, 10);
+        z.see(1, 10);
+        z.see(10, 10);
+        z.see(11, 70);
+        // 100 less 20, 100 less 777, 100 less 196, 700 less 5.
+        due("the least of them", z.tooStiff(), 1);
+        due("off(10)", z.off(10), 904);
+        BowBend one = newBow();
+        one.see(10, 1);
+        due("one alone is seen", one.tooStiff(), 0);
     }
 
     private void slipsDue(BowBend x, int n, int t, int y, long upper, long lower) {
