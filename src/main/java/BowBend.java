@@ -761,12 +761,12 @@ public final class BowBend {
         }
 
         int evenness(long pull, long gives) {
-            long least = Long.MAX_VALUE;
+            long least = NONE;
             long greatest = 0;
             for (Place p : places) {
                 if (has(p)) {
                     long strain = strainOf(p, pull, gives);
-                    least = Math.min(least, strain);
+                    least = least == NONE ? strain : Math.min(least, strain);
                     greatest = Math.max(greatest, strain);
                 }
             }

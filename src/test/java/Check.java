@@ -1,3 +1,5 @@
+import java.util.function.LongSupplier;
+
 /** Counts the answers that are due, prints those that are not, and tells them at the end. */
 final class Check {
     private String about = "";
@@ -15,6 +17,30 @@ final class Check {
         }
         wrong++;
         System.out.println(about + ": " + call + " answered " + got + ", due is " + want);
+    }
+
+    /** A call that must answer so and change nothing. */
+    void still(BowBend x, String call, LongSupplier ask, long want) {
+        String before = stateOf(x);
+        due(call, ask.getAsLong(), want);
+        String after = stateOf(x);
+        if (!before.equals(after)) {
+            due(call + " changed " + before + " to " + after, 1, 0);
+        }
+    }
+
+    /** All that can be asked of what an object holds, but for what its slots keep. */
+    static String stateOf(BowBend x) {
+        StringBuilder state = new StringBuilder();
+        for (int place = 0; place < 16; place++) {
+            for (int what = 0; what < 6; what++) {
+                state.append(x.about(place, what)).append(' ');
+            }
+        }
+        for (int i = 0; i < 9; i++) {
+            state.append(x.grown(i / 3, i % 3)).append(' ').append(x.count(i)).append(' ');
+        }
+        return state.append(x.broken()).append(' ').append(x.fault()).toString();
     }
 
     int wrong() {

@@ -80,27 +80,8 @@ public final class PromiseTests {
         check.due(call, got, want);
     }
 
-    /** A call that must answer so and change nothing. */
     private void still(BowBend x, String call, LongSupplier ask, long want) {
-        String before = stateOf(x);
-        check.due(call, ask.getAsLong(), want);
-        String after = stateOf(x);
-        if (!before.equals(after)) {
-            check.due(call + " changed " + before + " to " + after, 1, 0);
-        }
-    }
-
-    private static String stateOf(BowBend x) {
-        StringBuilder state = new StringBuilder();
-        for (int place = 0; place < 16; place++) {
-            for (int what = 0; what < 6; what++) {
-                state.append(x.about(place, what)).append(' ');
-            }
-        }
-        for (int i = 0; i < 9; i++) {
-            state.append(x.grown(i / 3, i % 3)).append(' ').append(x.count(i)).append(' ');
-        }
-        return state.append(x.broken()).append(' ').append(x.fault()).toString();
+        check.still(x, call, ask, want);
     }
 
     /** A new bow of two like places has a strain of 20 (20000 as told) for each inch. */
@@ -966,7 +947,7 @@ public final class PromiseTests {
         x.knot(11, true);
         x.see(10, 8);
         due("some take sets", x.draw(5) > 0 ? 1 : 0, 1);
-        String kept = stateOf(x);
+        String kept = Check.stateOf(x);
         still(x, "keep", () -> x.keep(0), 2);
         still(x, "slot", () -> x.keep(-1), UNKNOWN);
         still(x, "slot", () -> x.keep(2), UNKNOWN);
@@ -980,11 +961,11 @@ public final class PromiseTests {
         due("it breaks", x.draw(40) >= 100 ? 1 : 0, 1);
         check.about("promise 36");
         due("again", x.again(0), 2);
-        due("as it was", stateOf(x).equals(kept) ? 1 : 0, 1);
+        due("as it was", Check.stateOf(x).equals(kept) ? 1 : 0, 1);
         x.scrape(10, 1);
         x.see(11, 3);
         due("once more", x.again(0), 2);
-        due("as it was", stateOf(x).equals(kept) ? 1 : 0, 1);
+        due("as it was", Check.stateOf(x).equals(kept) ? 1 : 0, 1);
         due("the other", x.again(1), 2);
         due("e", x.grown(0, 0), 1);
         due("not broken", x.broken(), NONE);
