@@ -2,6 +2,8 @@ import java.util.function.LongSupplier;
 
 /** Counts the answers that are due, prints those that are not, and tells them at the end. */
 final class Check {
+    private static final int MOST_TOLD = 50;
+
     private String about = "";
     private int right = 0;
     private int wrong = 0;
@@ -16,6 +18,9 @@ final class Check {
             return;
         }
         wrong++;
+        if (wrong > MOST_TOLD) {
+            return;
+        }
         System.out.println(about + ": " + call + " answered " + got + ", due is " + want);
     }
 
@@ -29,16 +34,20 @@ final class Check {
         }
     }
 
-    /** All that can be asked of what an object holds, but for what its slots keep. */
+    /** All that can be asked of what an object holds, but for what its slots keep: at most 90 calls. */
     static String stateOf(BowBend x) {
         StringBuilder state = new StringBuilder();
-        for (int place = 0; place < 16; place++) {
+        int n = x.count(1);
+        for (int i = 0; i < 2 * n; i++) {
             for (int what = 0; what < 6; what++) {
-                state.append(x.about(place, what)).append(' ');
+                state.append(x.about(i / n * 10 + i % n, what)).append(' ');
             }
         }
         for (int i = 0; i < 9; i++) {
-            state.append(x.grown(i / 3, i % 3)).append(' ').append(x.count(i)).append(' ');
+            state.append(x.grown(i / 3, i % 3)).append(' ');
+        }
+        for (int what = 0; what < 5; what++) {
+            state.append(x.count(what)).append(' ');
         }
         return state.append(x.broken()).append(' ').append(x.fault()).toString();
     }
