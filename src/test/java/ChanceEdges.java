@@ -169,27 +169,52 @@ public final class ChanceEdges extends Edges {
     @Says(promise = 36, value = "They are as they were kept: how many PLACES a LIMB has.")
     private void againAsItWas() {
         for (boolean breaks : new boolean[] {false, true}) {
-            BowBend x = Check.bowOf(even(6, "40"));
-            x.wood(0, 5, 99, 76);
-            x.draw(40);
-            x.knot(15, breaks);
-            x.see(5, 99);
-            x.draw(breaks ? 40 : 0);
-            due("broken", x.broken(), breaks ? 15 : NONE);
-            due("sets", x.count(3), 12);
+            BowBend x = drawnBow(breaks);
             String kept = Check.stateOf(x);
             due("keep", x.keep(1), 6);
-            x.wood(0, 9, 1, 1);
-            x.wood(2, 1, 2, 3);
-            x.knot(0, true);
-            x.see(5, 1);
-            x.see(6, 2);
-            x.shape(1, 99);
+            changeAll(x, breaks);
             due("again", x.again(1), 6);
-            due("as it was", kept.equals(Check.stateOf(x)) ? 1 : 0, 1);
+            asItWas(x, kept);
             due("once more", x.again(1), 6);
-            due("as it was", kept.equals(Check.stateOf(x)) ? 1 : 0, 1);
+            asItWas(x, kept);
+            x.wipe();
+            Check.put(x, alike(6, "9042"));
+            due("made anew", x.stave(), 6);
+            x.wipe();
+            Check.put(x, even(6, "40"));
+            due("again", x.again(1), 6);
+            asItWas(x, kept);
         }
+    }
+
+    /** Each place has a SET, the last is broken or not. */
+    private BowBend drawnBow(boolean breaks) {
+        BowBend x = Check.bowOf(even(6, "40"));
+        x.wood(0, 5, 99, 76);
+        x.draw(40);
+        due("sets", x.count(3), 12);
+        x.knot(15, breaks);
+        x.see(5, 99);
+        x.draw(breaks ? 40 : 0);
+        due("broken", x.broken(), breaks ? 15 : NONE);
+        return x;
+    }
+
+    private void changeAll(BowBend x, boolean isBroken) {
+        x.wood(0, 9, 1, 1);
+        x.wood(2, 1, 2, 3);
+        x.knot(0, true);
+        x.see(5, 1);
+        x.see(15, 2);
+        if (!isBroken) {
+            due("steamed", x.steam(0), 0);
+            due("broken", x.draw(40) >= 100 ? 1 : 0, 1);
+        }
+        due("another form", x.shape(1, 99), 12);
+    }
+
+    private void asItWas(BowBend x, String kept) {
+        due("as it was", kept.equals(Check.stateOf(x)) ? 1 : 0, 1);
     }
 
     @Says(promise = 36, value = "SLOTS 0 .. 1 keep THE STAVE")
@@ -203,9 +228,14 @@ public final class ChanceEdges extends Edges {
         due("one place", x.again(0), 1);
         due("places", x.count(1), 1);
         due("no sixth", x.about(5, 0), UNKNOWN);
+        due("width", x.about(10, 0), 5);
+        due("depth", x.about(10, 1), 20);
+        due("wood", x.about(10, 2), 0);
         due("nothing is seen", x.count(4), 0);
         due("six places", x.again(1), 6);
         due("the last", x.about(15, 5), 9);
+        due("its width", x.about(15, 0), 9);
+        due("its wood", x.about(15, 2), 2);
         due("the text is not kept", x.count(0), 49);
         x.wipe();
         x.again(0);

@@ -87,4 +87,24 @@ final class Check {
         put(bow, signs);
         return bow.fault();
     }
+
+    /** Woods so far apart that scrapes of unlike places can bring the same (cut). */
+    static BowBend farWoods(String signs, int e) {
+        BowBend bow = bowOf(signs);
+        bow.wood(0, e, 99, 99);
+        bow.wood(1, 9, 99, 99);
+        bow.wood(2, 1, 99, 99);
+        return bow;
+    }
+
+    /** How even it would be at so many inches if these places were scraped. */
+    static int evenScraped(BowBend bow, int at, int... places) {
+        bow.keep(0);
+        for (int place : places) {
+            bow.scrape(place, 1);
+        }
+        int even = bow.even(at);
+        bow.again(0);
+        return even;
+    }
 }

@@ -19,25 +19,6 @@ public final class FormEdges extends Edges {
         return Check.bowOf("5210/5200");
     }
 
-    /** Woods so far apart that unlike ways to scrape can bring the same (cut). */
-    private static BowBend farWoods(String signs, int e) {
-        BowBend x = Check.bowOf(signs);
-        x.wood(0, e, 99, 99);
-        x.wood(1, 9, 99, 99);
-        x.wood(2, 1, 99, 99);
-        return x;
-    }
-
-    private static int evenScraped(BowBend x, int at, int... places) {
-        x.keep(0);
-        for (int place : places) {
-            x.scrape(place, 1);
-        }
-        int even = x.even(at);
-        x.again(0);
-        return even;
-    }
-
     // ---- promise 19
 
     @Says(promise = 19, value = "HINGE. BAD.")
@@ -47,17 +28,22 @@ public final class FormEdges extends Edges {
 
     @Says(promise = 19, value = "the PLACE with the greatest STRAIN; STIFF: with the least; of like ones the least told.")
     private void hingeOfLikeOnes() {
-        due("all alike", twelve("30").hinge(20), 0);
-        due("all 0", twelve("29", 15).hinge(0), 0);
-        due("the first", twelve("29", 0).hinge(20), 0);
-        due("the last", twelve("29", 15).hinge(20), 15);
-        due("the last two", twelve("29", 14, 15).hinge(20), 14);
-        due("the last of one limb, the first of the other", twelve("29", 5, 10).hinge(20), 5);
-        due("all but the first", twelve("31", 0).hinge(20), 1);
-        due("all but the first limb", twelve("31", 0, 1, 2, 3, 4, 5).hinge(20), 10);
+        ofLikeOnes(BowBend::hinge, "29", "31");
         BowBend x = newBow();
         x.draw(3);
         due("all 0, as it follows by 4", x.hinge(4), 0);
+    }
+
+    /** The place that lies farthest on one side, if places so far on that side, or on the other, are among the twelve. */
+    private void ofLikeOnes(Call farthest, String far, String near) {
+        due("all alike", farthest.on(twelve("30"), 20), 0);
+        due("all 0", farthest.on(twelve(far, 15), 0), 0);
+        due("the first", farthest.on(twelve(far, 0), 20), 0);
+        due("the last", farthest.on(twelve(far, 15), 20), 15);
+        due("the last two", farthest.on(twelve(far, 14, 15), 20), 14);
+        due("the last of one limb, the first of the other", farthest.on(twelve(far, 5, 10), 20), 5);
+        due("all but the first", farthest.on(twelve(near, 0), 20), 1);
+        due("all but the first limb", farthest.on(twelve(near, 0, 1, 2, 3, 4, 5), 20), 10);
     }
 
     // ---- promise 20
@@ -69,14 +55,7 @@ public final class FormEdges extends Edges {
 
     @Says(promise = 20, value = "the PLACE with the greatest STRAIN; STIFF: with the least; of like ones the least told.")
     private void stiffOfLikeOnes() {
-        due("all alike", twelve("30").stiff(20), 0);
-        due("all 0", twelve("31", 15).stiff(0), 0);
-        due("the first", twelve("31", 0).stiff(20), 0);
-        due("the last", twelve("31", 15).stiff(20), 15);
-        due("the last two", twelve("31", 14, 15).stiff(20), 14);
-        due("the last of one limb, the first of the other", twelve("31", 5, 10).stiff(20), 5);
-        due("all but the first", twelve("29", 0).stiff(20), 1);
-        due("all but the first limb", twelve("29", 0, 1, 2, 3, 4, 5).stiff(20), 10);
+        ofLikeOnes(BowBend::stiff, "31", "29");
     }
 
     // ---- promise 21
@@ -91,7 +70,7 @@ public final class FormEdges extends Edges {
         due("97331 by 107307", nearlyEven().even(5), 97331000 / 107307);
         due("all alike", twelve("30").even(40), 1000);
         due("the greatest is 0", nearlyEven().even(0), 1000);
-        due("the least alone is 0", farWoods("9400/1042", 9).even(1), 0);
+        due("the least alone is 0", Check.farWoods("9400/1042", 9).even(1), 0);
         due("half", Check.bowOf("52005200/52005200").even(1), 500);
         BowBend x = newBow();
         x.scrape(0, 1);
@@ -139,15 +118,15 @@ public final class FormEdges extends Edges {
         due("all alike", twelve("30").next(40, 0), NONE);
         due("no strain", nearlyEven().next(0, 0), NONE);
         BowBend x = twelve("31", 3, 12);
-        due("two like stiff ones: as even with one of them scraped", evenScraped(x, 20, 3), x.even(20));
+        due("two like stiff ones: as even with one of them scraped", Check.evenScraped(x, 20, 3), x.even(20));
         due("that is not more", x.next(20, 0), NONE);
     }
 
     @Says(promise = 22, value = "the one by which EVEN at x is greatest then; of like ones the least told")
     private void nextOfLikeOnes() {
-        BowBend x = farWoods("43618352/43618352", 8);
-        due("by the first", evenScraped(x, 1, 0), 105);
-        due("by the other limb's", evenScraped(x, 1, 10), 105);
+        BowBend x = Check.farWoods("43618352/43618352", 8);
+        due("by the first", Check.evenScraped(x, 1, 0), 105);
+        due("by the other limb's", Check.evenScraped(x, 1, 10), 105);
         due("now", x.even(1) < 105 ? 1 : 0, 1);
         due("the least told", x.next(1, 0), 0);
         due("the greatest, though told last", twelve("31", 15).next(20, 0), 15);
@@ -212,6 +191,10 @@ public final class FormEdges extends Edges {
         due("nothing is 0 or more", newBow().best(0, 0, 1), 1000);
         due("nothing is less than 1", newBow().best(0, 1, 1), NONE);
         due("bestAt of no way", newBow().bestAt(4, 801, 3, 0), NONE);
+        BowBend x = nearlyEven();
+        due("there is one", x.bestAt(4, 800, 3, 0), 0);
+        due("there is none", x.bestAt(4, 859, 3, 0), NONE);
+        due("best of none", x.best(4, 859, 3), NONE);
     }
 
     // ---- promise 24
@@ -251,10 +234,10 @@ public final class FormEdges extends Edges {
     @Says(promise = 24, value = "of like ones the fewest SCRAPES")
     private void fewestScrapes() {
         BowBend x = Check.bowOf("5200/5210");
-        due("one", evenScraped(x, 5, 10), 1000);
-        due("three as well", evenScraped(x, 5, 0, 10, 10), 1000);
+        due("one", Check.evenScraped(x, 5, 10), 1000);
+        due("three as well", Check.evenScraped(x, 5, 0, 10, 10), 1000);
         due("one is less", x.bestAt(5, 0, 3, 1), NONE);
-        BowBend y = farWoods("304141121041/304141121041", 9);
+        BowBend y = Check.farWoods("304141121041/304141121041", 9);
         due("none", y.even(1), 110);
         due("one brings nothing", y.best(1, 0, 1), 110);
         due("none is less", y.bestAt(1, 0, 1, 0), NONE);
@@ -262,18 +245,18 @@ public final class FormEdges extends Edges {
 
     @Says(promise = 24, value = "of these that whose PLACES, the least told first, are least (the first, then the second, then the third)")
     private void leastPlaces() {
-        BowBend x = farWoods("304141121041/304141121041", 9);
-        due("1 and 1", evenScraped(x, 1, 1, 1), 111);
-        due("11 and 11", evenScraped(x, 1, 11, 11), 111);
+        BowBend x = Check.farWoods("304141121041/304141121041", 9);
+        due("1 and 1", Check.evenScraped(x, 1, 1, 1), 111);
+        due("11 and 11", Check.evenScraped(x, 1, 11, 11), 111);
         due("the first is least", x.bestAt(1, 0, 2, 0), 1);
-        BowBend y = farWoods("328111209042/328111209042", 3);
-        due("0 and 10", evenScraped(y, 2, 0, 10), 2);
-        due("1 and 1", evenScraped(y, 2, 1, 1), 2);
+        BowBend y = Check.farWoods("328111209042/328111209042", 3);
+        due("0 and 10", Check.evenScraped(y, 2, 0, 10), 2);
+        due("1 and 1", Check.evenScraped(y, 2, 1, 1), 2);
         due("the first before the second", y.bestAt(2, 0, 2, 0), 0);
         due("though it is greater", y.bestAt(2, 0, 2, 1), 10);
-        BowBend z = farWoods("53217352/80916092", 3);
-        due("0, 0 and 0", evenScraped(z, 3, 0, 0, 0), 6);
-        due("0, 0 and 10", evenScraped(z, 3, 0, 0, 10), 6);
+        BowBend z = Check.farWoods("53217352/80916092", 3);
+        due("0, 0 and 0", Check.evenScraped(z, 3, 0, 0, 0), 6);
+        due("0, 0 and 10", Check.evenScraped(z, 3, 0, 0, 10), 6);
         due("two bring less", z.best(3, 0, 2), 5);
         due("three", z.best(3, 0, 3), 6);
         due("the third is least", z.bestAt(3, 0, 3, 2), 0);
@@ -298,6 +281,7 @@ public final class FormEdges extends Edges {
         due("39 deep bears 38025", newBow().form(0, 38, 1), 39);
         due("but not 39000", newBow().form(0, 39, 1), 40);
         due("40000 is no more than 25 and 1600", newBow().form(10, 40, 1), 40);
+        due("39 times 25 and 1024 is 600 too few", newBow().form(0, 999, 39), 33);
         due("arm 6", Check.bowOf(alike(6, "5200")).form(15, 40, 6), 40);
     }
 

@@ -124,6 +124,19 @@ public final class OutcomeEdges extends Edges {
         }
     }
 
+    @Says(promise = 29, value = "of a LIMB PLACES 0 .. k are not known")
+    private void lostOfUnlikeLimbs() {
+        // They give 5000, 190476 and 48225, 1388; 20 deep 5000, 23809 and 10416, 11111.
+        long[] known = {240089, 49613, 196864, 195476};
+        long[] lost = {5000, 28809, 10416, 21527};
+        for (int i = 0; i < 4; i++) {
+            int place = i / 2 * 10 + i % 2;
+            BowBend x = Check.bowOf("52003101/41229400");
+            fractionOf("to " + place, () -> x.lost(place, 20, 20, 1, true, true), () -> x.lost(place, 20, 20, 1, true, false),
+                2000000, known[i] + lost[i]);
+        }
+    }
+
     // ---- promise 30
 
     @Says(promise = 30, value = "What is SEEN of a PLACE: what it was. UNKNOWN; BAD: v.")

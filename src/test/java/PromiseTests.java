@@ -578,34 +578,15 @@ public final class PromiseTests {
         still(x, "f", () -> x.next(0, -1), BAD);
         still(x, "f", () -> x.next(0, 1000), BAD);
         due("f may be 999", x.next(0, 999), NONE);
-        BowBend like = likeOnes("43618352/43618352", 8);
-        due("scraped in the first limb", evenScraped(like, 1, 0), 105);
-        due("scraped in the second limb", evenScraped(like, 1, 10), 105);
+        BowBend like = Check.farWoods("43618352/43618352", 8);
+        due("scraped in the first limb", Check.evenScraped(like, 1, 0), 105);
+        due("scraped in the second limb", Check.evenScraped(like, 1, 10), 105);
         still(like, "of like ones the least told", () -> like.next(1, 0), 0);
         due("4 deep is not scraped", Check.bowOf("5040/9050").next(40, 0), 10);
         due("4 deep is not scraped", Check.bowOf("50405040/50405040").next(1, 0), NONE);
         due("nor when it is the stiff one", Check.bowOf("9040/4040").next(1, 0), NONE);
         x.draw(40);
         due("broken, as if it were not", x.next(4, 0), 0);
-    }
-
-    /** Woods so far apart that scrapes of unlike places can bring the same. */
-    private static BowBend likeOnes(String signs, int e) {
-        BowBend x = Check.bowOf(signs);
-        x.wood(0, e, 99, 99);
-        x.wood(1, 9, 99, 99);
-        x.wood(2, 1, 99, 99);
-        return x;
-    }
-
-    private static int evenScraped(BowBend x, int at, int... places) {
-        x.keep(0);
-        for (int place : places) {
-            x.scrape(place, 1);
-        }
-        int even = x.even(at);
-        x.again(0);
-        return even;
     }
 
     private void best() {
@@ -641,16 +622,16 @@ public final class PromiseTests {
         check.about("promise 23");
         BowBend x = Check.bowOf("5210/5210");
         due("of like ones the fewest", x.bestAt(4, 0, 2, 0), NONE);
-        BowBend y = likeOnes("304141121041/304141121041", 9);
+        BowBend y = Check.farWoods("304141121041/304141121041", 9);
         due("one brings nothing", y.best(1, 0, 1), 110);
-        due("these", evenScraped(y, 1, 1, 1), 111);
-        due("and those", evenScraped(y, 1, 11, 11), 111);
+        due("these", Check.evenScraped(y, 1, 1, 1), 111);
+        due("and those", Check.evenScraped(y, 1, 11, 11), 111);
         due("two", y.best(1, 0, 2), 111);
         due("the first is least", y.bestAt(1, 0, 2, 0), 1);
         due("the second too", y.bestAt(1, 0, 2, 1), 1);
-        BowBend z = likeOnes("328111209042/328111209042", 3);
-        due("these", evenScraped(z, 2, 0, 10), 2);
-        due("and those", evenScraped(z, 2, 1, 1), 2);
+        BowBend z = Check.farWoods("328111209042/328111209042", 3);
+        due("these", Check.evenScraped(z, 2, 0, 10), 2);
+        due("and those", Check.evenScraped(z, 2, 1, 1), 2);
         due("the first is least", z.bestAt(2, 0, 2, 0), 0);
         due("then the second", z.bestAt(2, 0, 2, 1), 10);
     }
